@@ -437,9 +437,8 @@ public final class RingMatches {
         int size;
 
         Series() {
-            // One ring more than a series may have: absent() puts one in.
-            widths = new int[MOST_RINGS + 1];
-            evens = new int[MOST_RINGS + 1];
+            widths = new int[MOST_RINGS];
+            evens = new int[MOST_RINGS];
         }
 
         boolean has(int k) {
@@ -461,6 +460,7 @@ public final class RingMatches {
             }
         }
 
+        /** The other one has 23 rings at most, so that one more has room. */
         void copyWithGap(Series other, int gap) {
             size = 0;
             for (int k = 0; k < other.size; k++) {
