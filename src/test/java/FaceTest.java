@@ -118,7 +118,7 @@ public final class FaceTest {
             sum += everyCall(x);
         }
         long made = bytesMade() - before;
-        Check.same("bytes that 600 calls make, " + made + ", are few (" + sum + ")", made < 4096, true);
+        Check.same("bytes that 720 calls make, " + made + ", are few (" + sum + ")", made < 4096, true);
         before = bytesMade();
         x = new RingMatches();
         made = bytesMade() - before;
