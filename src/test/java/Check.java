@@ -1,7 +1,22 @@
+import java.util.ArrayList;
+import java.util.Arrays;
+import java.util.List;
+
 /** What the tests share: comparing answers, and texts put on and read off an object. */
 final class Check {
+    /** The numbers at which a sum would wrap around. */
+    static final int[] ENDS_OF_INT = {
+        Integer.MIN_VALUE, Integer.MIN_VALUE + 1, Integer.MIN_VALUE + 23, Integer.MIN_VALUE + 24,
+        Integer.MAX_VALUE - 24, Integer.MAX_VALUE - 23, Integer.MAX_VALUE - 1, Integer.MAX_VALUE,
+    };
+
     private static int checks = 0;
     private static int wrong = 0;
+    private static final List<Said> SAID = new ArrayList<>();
+
+    /** A sentence of the document, the heading that it stands under, and how many checks came ahead of it. */
+    record Said(String heading, String sentence, int checksAhead) {
+    }
 
     interface Call {
         long answer();
@@ -14,8 +29,33 @@ final class Check {
         checks++;
         if (!got.equals(want)) {
             wrong++;
-            System.out.println(what + " answered " + got + ", due is " + want);
+            System.out.println(bySentence() + what + " answered " + got + ", due is " + want);
         }
+    }
+
+    /** The checks from here on stand by this sentence of the document. */
+    static void says(String heading, String sentence) {
+        closeSentence();
+        SAID.add(new Said(heading, sentence, checks));
+    }
+
+    private static String bySentence() {
+        if (SAID.isEmpty()) {
+            return "";
+        }
+        Said latest = SAID.get(SAID.size() - 1);
+        return latest.heading() + ", '" + latest.sentence() + "': ";
+    }
+
+    private static void closeSentence() {
+        if (!SAID.isEmpty() && SAID.get(SAID.size() - 1).checksAhead() == checks) {
+            same("checks of this sentence", 0, "one or more");
+        }
+    }
+
+    static List<Said> allSaid() {
+        closeSentence();
+        return SAID;
     }
 
     static void due(String what, long got, long want) {
@@ -73,8 +113,25 @@ final class Check {
 
     static String textOf(RingMatches x, int series) {
         StringBuilder text = new StringBuilder();
-        for (int i = 0; i < x.written(series, -1); i++) {
+        int length = x.written(series, -1);
+        for (int i = 0; i < length; i++) {
             text.append((char) x.written(series, i));
+        }
+        return text.toString();
+    }
+
+    /** These numbers, and those near the ends of int. */
+    static int[] andEndsOfInt(int... numbers) {
+        int[] all = Arrays.copyOf(numbers, numbers.length + ENDS_OF_INT.length);
+        System.arraycopy(ENDS_OF_INT, 0, all, numbers.length, ENDS_OF_INT.length);
+        return all;
+    }
+
+    /** A text of rings 1, 2, 3 and so on. */
+    static String rising(int many) {
+        StringBuilder text = new StringBuilder("1");
+        for (int i = 2; i <= many; i++) {
+            text.append(' ').append(i);
         }
         return text.toString();
     }

@@ -114,11 +114,11 @@ public final class FaceTest {
         }
         long sum = everyCall(x);
         long before = bytesMade();
-        for (int i = 0; i < 60; i++) {
+        for (int i = 0; i < 30; i++) {
             sum += everyCall(x);
         }
         long made = bytesMade() - before;
-        Check.same("bytes that 720 calls make, " + made + ", are few (" + sum + ")", made < 4096, true);
+        Check.same("bytes that 360 calls make, " + made + ", are few (" + sum + ")", made < 4096, true);
         before = bytesMade();
         x = new RingMatches();
         made = bytesMade() - before;

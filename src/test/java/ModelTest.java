@@ -62,7 +62,7 @@ public final class ModelTest {
     }
 
     private int series() {
-        return from(0, x.count(1));
+        return from(0, model.count(1));
     }
 
     private void units(int a, int b) {
@@ -99,7 +99,7 @@ public final class ModelTest {
             case 4 -> askAbsent(series(), series(), from(-6, 13));
             case 5 -> askCore(series(), series(), from(-4, 9));
             case 6 -> askGroup(series(), from(3, 6), from(-100, 202));
-            case 7 -> askOverlap(from(0, x.count(2)), from(0, 3));
+            case 7 -> askOverlap(from(0, model.count(2)), from(0, 3));
             default -> {
                 int what = from(0, 4);
                 both("count(" + what + ")", () -> x.count(what), () -> model.count(what));
@@ -118,7 +118,7 @@ public final class ModelTest {
     private void askMatch(int a, int b, int least) {
         both("match(" + a + ", " + b + ", " + least + ")", () -> x.match(a, b, least), () -> model.match(a, b, least));
         for (int i = 0; i < 2; i++) {
-            int k = from(0, x.count(2));
+            int k = from(0, model.count(2));
             for (int what = 0; what < 3; what++) {
                 askOverlap(k, what);
             }
