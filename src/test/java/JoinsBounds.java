@@ -28,6 +28,9 @@ final class JoinsBounds {
         absent("1 2 3", "1 2 3", -1, 0);
         absent("1 2 3", "1 2 3", 0, 3);
         absent("9 8 6 2 1", "8 4 7 3", 0, 4);
+        // Of a longer b, a place behind all rings of a: there and at place 0 alone are three pairs.
+        absent("1 2 3", "7 1 2 3", -1, 4);
+        absent("1 2 3", Check.rings(20, "7") + " 1 2 3", -20, 23);
         // 17 at places 0 and 3, less at the others.
         absent("9 1 3 5 9", "5 6 4 7", 0, 0);
         // A missing ring beside those that are missing: places 3, 4 and 5 make the same.
@@ -238,6 +241,11 @@ final class JoinsBounds {
         Check.due("one ring", y.group(0, 3, Integer.MIN_VALUE), 0);
         RingMatches z = Check.with("1 2 4 " + Check.rings(21, "-"), Check.rings(21, "-") + " 1 2 4");
         Check.due("at shift -21", z.group(1, 3, 100), 0);
+        // The shift is above all rings of the one, or below all of the other.
+        RingMatches shortFirst = Check.with("1 2 4", Check.rings(21, "-") + " 1 2 4");
+        Check.due("a longer one with a shorter", shortFirst.group(1, 3, 100), 0);
+        RingMatches longFirst = Check.with(Check.rings(21, "-") + " 1 2 4", "1 2 4");
+        Check.due("a shorter one with a longer", longFirst.group(1, 3, 100), 0);
         RingMatches full = Check.with(Check.rings(24, "1"), Check.rings(24, "500"), Check.rings(23, "5"));
         Check.due("24 pairs of 0", full.group(1, 24, 0), 0);
         Check.due("24 pairs of 1", full.group(1, 24, 1), 1);

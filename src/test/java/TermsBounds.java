@@ -281,7 +281,12 @@ final class TermsBounds {
         correlation("5 6 7", "5 7 6", 3, 52);
         correlation("2 4 5", "7 3 8", 3, 0);
         correlation("1 1 3", "2 4 3", 3, 0);
+        allCorrelations();
         says("below 0 if c is;");
+        // Evened to 99 and 100: c is -1, 1 and 2, u and v are 2.
+        correlation("100 100 101", "100 101 100", 3, -50);
+        correlation("100 100 101", "101 100 101", 3, 50);
+        correlation("100 100 101", "100 100 101", 3, 100);
         correlation("1 1 2", "2 2 1", 3, -100);
         correlation("1 1 2", "1 2 1", 3, -50);
         // -74.00004, -2.9997, -99.999998 and -1.13.
@@ -298,6 +303,46 @@ final class TermsBounds {
         correlationAtShift0("- - 3 1 - - - 1 1 - - - 1 3 -", Check.rings(3, "500 500 1 - -"), 0);
         // c is 0, u and v are not: evened 50 100 150 and 75 150 75.
         correlation("1 2 3", "1 2 1", 3, 0);
+    }
+
+    /** Many rows of three rings, by the sentence's own products, so that every t from -100 to 100 is due somewhere. */
+    private static void allCorrelations() {
+        boolean[] seen = new boolean[201];
+        for (int i = 0; i < 729; i++) {
+            String a = threeRings(i);
+            for (int j = i; j < 729; j += 11) {
+                RingMatches x = Check.with(a, threeRings(j));
+                x.match(0, 1, 3);
+                int got = x.overlap(0, 2);
+                seen[100 + got] = true;
+                long c = spread(x, 0, 1);
+                long both = spread(x, 0, 0) * spread(x, 1, 1);
+                long t = Math.abs(got);
+                boolean due = both == 0 ? got == 0
+                        : t * t * both <= 10000 * c * c && (t + 1) * (t + 1) * both > 10000 * c * c && got * c >= 0;
+                Check.same("correlation " + got + " of " + a + " / " + threeRings(j) + " is due", due, true);
+            }
+        }
+        for (int t = -100; t <= 100; t++) {
+            Check.same("a correlation of " + t + " was seen", seen[100 + t], true);
+        }
+    }
+
+    private static String threeRings(int number) {
+        return (1 + number % 9) + " " + (1 + number / 9 % 9) + " " + (1 + number / 81);
+    }
+
+    /** n sum(x y) - sum(x) sum(y) of two series of three rings. */
+    private static long spread(RingMatches x, int a, int b) {
+        long products = 0;
+        long ofA = 0;
+        long ofB = 0;
+        for (int k = 0; k < 3; k++) {
+            products += x.evened(a, k) * x.evened(b, k);
+            ofA += x.evened(a, k);
+            ofB += x.evened(b, k);
+        }
+        return 3 * products - ofA * ofB;
     }
 
     private static void correlationAtShift0(String a, String b, int want) {

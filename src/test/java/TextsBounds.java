@@ -107,6 +107,12 @@ final class TextsBounds {
         Check.due("read again", y.read(), -1);
         Check.due("read of what comes then", Check.readText(y, "12"), 0);
         Check.same("its text", Check.textOf(y, 0), "12");
+        Check.due("read that fails late", Check.readText(y, "1 2 3 4 ~"), -9);
+        Check.due("a core behind it", y.core(0, 0, 0), 1);
+        Check.same("its text has none of it", Check.textOf(y, 1), "12");
+        Check.due("read that fails later", Check.readText(y, "1 2 3 4 5 6 "), -13);
+        Check.due("a text behind it", Check.readText(y, "7"), 2);
+        Check.same("its text has none of it", Check.textOf(y, 2), "7");
         Check.says("Promise 3", "IllegalStateException: there are eight.");
         Check.badState("an empty pad", x::read);
         Check.type(x, "1 2");
