@@ -1,7 +1,7 @@
 import java.io.IOException;
 import java.nio.file.Path;
 
-/** Every sentence of the document's terms and promises, at the bounds that it names. */
+/** Every sentence of the document's "What it is", terms and promises, at the bounds that it names. */
 public final class BoundsTest {
     public static void main(String[] args) throws IOException {
         TermsBounds.check();

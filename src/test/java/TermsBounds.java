@@ -7,7 +7,9 @@ final class TermsBounds {
     }
 
     static void check() {
+        whatItIs();
         calls();
+        laterCalls();
         series();
         rings();
         widths();
@@ -41,12 +43,75 @@ final class TermsBounds {
     }
 
     private static void calls() {
-        Check.says("What it is", "An object is used for at most 512 calls after it has been made;");
+        isSaid("An object is used for at most 512 calls after it has been made;");
         Check.due("the 512th call, of tries", afterCall511().count(3), 504 * 47);
         Check.due("the 512th call, of correlation", afterCall511().overlap(0, 2), 100);
         // 23688 of 2 to the power of 23, both divided by 8.
         Check.due("the 512th call, of odds above", afterCall511().odds(0, 0), 2961);
         Check.due("the 512th call, of odds below", afterCall511().odds(0, 1), 1048576);
+    }
+
+    private static void whatItIs() {
+        isSaid("Tree rings: series of widths with missing ones,");
+        RingMatches x = Check.with("1 9 - 1 9 9", "1 9 1 9 9");
+        Check.due("a missing ring", x.width(0, 2), RingMatches.NONE);
+        Check.due("a width", x.width(0, 4), 9);
+        isSaid("made even,");
+        Check.due("9 of 1 9 9", x.evened(0, 5), 142);
+        isSaid("all overlaps of two by correlation and by agreement of their rises,");
+        Check.due("overlaps of five rings", x.match(1, 1, 5), 1);
+        Check.due("correlation with itself", x.overlap(0, 2), 100);
+        Check.due("agreement with itself, above", x.agree(0, 0), 1);
+        Check.due("agreement with itself, below", x.agree(0, 1), 1);
+        isSaid("with odds of as many tries;");
+        // One way to take four of four, of 16, times nine tries.
+        Check.due("odds above", x.odds(0, 0), 9);
+        Check.due("odds below", x.odds(0, 1), 16);
+        isSaid("a ring put in where it may be missing,");
+        Check.due("missing ahead of ring", x.absent(0, 1, 0), 2);
+        isSaid("cores joined, groups;");
+        Check.due("a core", x.core(0, 1, 1), 2);
+        Check.due("its group", x.group(2, 6, 100), 2);
+        Check.due("its group, of any correlation", x.group(2, 3, -100), 0);
+        isSaid("texts read and written back.");
+        Check.same("series 0", Check.textOf(x, 0), "1 9 - 1 9 9");
+        Check.same("the core", Check.textOf(x, 2), "1 5 9 1 9 9");
+    }
+
+    private static void isSaid(String clause) {
+        Check.says("What it is", clause);
+    }
+
+    /** Their answers are free, but the language's rule 7 holds for them too: no call ever throws by itself. */
+    private static void laterCalls() {
+        isSaid("what later calls answer is free.");
+        RingMatches x = afterCall511();
+        for (int round = 0; round < 9; round++) {
+            for (int number : Check.andEndsOfInt(-1, 0, 1, 24)) {
+                mayThrow("unit", () -> x.unit(number, number), "IllegalArgument", "IllegalState");
+                mayThrow("read", x::read, "IllegalState");
+                mayThrow("width", () -> x.width(0, number), "IndexOutOfBounds");
+                mayThrow("written", () -> x.written(0, number), "IndexOutOfBounds");
+                mayThrow("evened", () -> x.evened(0, number), "IndexOutOfBounds");
+                mayThrow("match", () -> x.match(0, 0, number), "IndexOutOfBounds", "IllegalArgument");
+                mayThrow("overlap", () -> x.overlap(0, number), "IndexOutOfBounds");
+                mayThrow("agree", () -> x.agree(0, number), "IndexOutOfBounds");
+                mayThrow("odds", () -> x.odds(0, number), "IndexOutOfBounds");
+                mayThrow("absent", () -> x.absent(0, 0, number), "IndexOutOfBounds", "IllegalArgument");
+                mayThrow("core", () -> x.core(0, 0, number), "IndexOutOfBounds", "IllegalState");
+                mayThrow("group", () -> x.group(0, number, number), "IndexOutOfBounds", "IllegalArgument");
+                mayThrow("count", () -> x.count(number), "IndexOutOfBounds");
+            }
+        }
+    }
+
+    private static void mayThrow(String call, Check.Call asked, String... kinds) {
+        String told = Check.told(asked);
+        boolean isFree = !told.startsWith("throws.");
+        for (String kind : kinds) {
+            isFree |= told.equals("throws." + kind + "Exception");
+        }
+        Check.same("a later " + call + ": " + told + " may be", isFree, true);
     }
 
     private static void series() {
